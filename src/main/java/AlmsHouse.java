@@ -727,10 +727,8 @@ public final class AlmsHouse {
         }
 
         void join(int does) {
+            // What "and" joins is one side of an "or"; among as strong ones the order makes no odds.
             release(AND);
-            if (does == OR) {
-                release(OR);
-            }
             hold(does);
         }
 
@@ -829,7 +827,6 @@ public final class AlmsHouse {
             changes = 0;
             found = 0;
             comparisons = 0;
-            terms = 0;
             open = 0;
             nots = 0;
         }

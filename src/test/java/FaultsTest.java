@@ -15,6 +15,8 @@ public final class FaultsTest {
         manyBrackets();
         manyNots();
         firstFromTheLeft();
+        likeWords();
+        behindFaults();
         check.end("FaultsTest");
     }
 
@@ -235,6 +237,52 @@ public final class FaultsTest {
         good("put 1 " + eight + "kin=1 and " + eight + "kin=1");
         good("put 1 " + eight + "(kin=1) and " + eight + "kin=1");
         is("put 1 not (" + eight + "not kin=1)", 4, 43);
+    }
+
+    /** Words that differ in one letter, or are parts of one another, aren't the same. */
+    private static void likeWords() {
+        String[] unlike = {"but", "pot", "pus", "puts", "pu", "ttrike", "strikf", "strikes", "arder", "orden", "orders"};
+        for (String word : unlike) {
+            is(word + " 1", 1, 0);
+        }
+        String[] starts = {"or", "and", "not", "age", "kin", "years", "means", "waits"};
+        for (String word : starts) {
+            is(word + " 1", 1, 0);
+        }
+        String[] noNames = {"bge", "agf", "zears", "yearz", "year", "leans", "meant", "lin", "kim", "kins", "vaits",
+            "waitt", "wait", "nor", "nots", "ands", "ors", "o", "a", "no"};
+        for (String word : noNames) {
+            is("put 1 " + word + " = 1", 2, 6);
+            is("order " + word, 2, 6);
+        }
+        String[] noJoints = {"order", "strike", "put", "not", "ar", "os", "bnd", "ant", "an", "age"};
+        for (String word : noJoints) {
+            is("put 1 age = 1 " + word + " kin = 1", 1, 14);
+        }
+    }
+
+    /** A text is read afresh, whatever stood open in the one before. */
+    private static void behindFaults() {
+        String eight = Check.repeat("not ", 8, "");
+        String[] before = {"put 1 not not not", "put 1 (((", "put 1 (not (kin=1 and", "put 1 kin=1 or kin=1 and kin=1 or",
+            "order 1+2+3+", "order 1+2+3*", "put 1 " + Check.repeat("age>1", 20, "or ") + "or",
+            Check.repeat("strike 1", 12, ";") + ";"};
+        // Each of these lets kin come, and nobody else.
+        String[] behind = {"put 1 kin=1", "put 1 " + eight + "kin=1", "put 1 ((((((((kin=1))))))))",
+            "put 1 kin=1 or kin=7", "put 1 kin=1 and kin=1;order 1+2+3+4",
+            "put 1 kin=1 or " + Check.repeat("kin=7", 19, "or "),
+            Check.repeat("strike 1", 11, ";") + ";put 1 kin=1"};
+        for (String faulty : before) {
+            for (String text : behind) {
+                AlmsHouse x = Check.withWills(1);
+                x.person(0, 0, true);
+                x.person(0, 0, false);
+                check.due("[" + faulty + "]", Check.scheme(x, 0, 0, faulty), -1);
+                check.due("[" + text + "] behind a fault", Check.scheme(x, 0, 0, text), 0);
+                check.due("[" + text + "] of kin", x.bars(0, 0, 0), -2);
+                check.due("[" + text + "] of others", x.bars(1, 0, 0), 1);
+            }
+        }
     }
 
     private static void firstFromTheLeft() {

@@ -7,6 +7,7 @@ public final class Promises01To08Test {
         will();
         feed();
         schemeRefusals();
+        schemeCuts();
         schemeRoom();
         faultAndWhere();
         clauseInTime();
@@ -90,6 +91,24 @@ public final class Promises01To08Test {
         schemeIs(x, 0, 0, 20, -1, 4);
         check.due("4: a fault empties the tape", x.count(11), 0);
         check.due("4: count(1)", x.count(1), 2);
+    }
+
+    /** Only the first n bytes are the text, though a token stands across. */
+    private static void schemeCuts() {
+        AlmsHouse x = Check.withWills(1);
+        x.person(0, 0, true);
+        Check.feed(x, "put 12 kin = 1234");
+        schemeIs(x, 0, 0, 14, 0, 0);
+        check.due("4: cut in a number", x.bars(0, 0, 0), -2);
+        Check.feed(x, "order kinless");
+        schemeIs(x, 0, 0, 9, 1, 0);
+        check.due("4: cut in a word", x.order(0, 0, 0), 1);
+        Check.feed(x, "strike 12#");
+        schemeIs(x, 0, 0, 9, 2, 0);
+        check.due("4: cut ahead of a bad byte", x.clauses(0, 0), 0);
+        Check.feed(x, "put 1 waits < 9");
+        schemeIs(x, 0, 0, 14, -1, 4);
+        check.due("6: the end is n", x.where(), 14);
     }
 
     private static void schemeIs(AlmsHouse x, int will, int day, int n, int due, int trouble) {

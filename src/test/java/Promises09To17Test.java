@@ -11,6 +11,7 @@ public final class Promises09To17Test {
         fact();
         factOfOthers();
         conditions();
+        truths();
         mayAndBars();
         mayInTime();
         order();
@@ -224,6 +225,35 @@ public final class Promises09To17Test {
         holds("kin=1or(" + Check.repeat("kin=0and(", 7, "") + "kin=1" + "))))))))", true);
     }
 
+    /** All ways to join four truths by "and" and "or". */
+    private static void truths() {
+        for (int bits = 0; bits < 128; bits++) {
+            boolean[] t = new boolean[4];
+            String[] s = new String[4];
+            for (int i = 0; i < 4; i++) {
+                t[i] = (bits >> i & 1) == 1;
+                s[i] = t[i] ? "kin=1" : "kin=0";
+            }
+            String[] joints = new String[3];
+            // What "and" joins is one truth; any of these is enough.
+            boolean any = false;
+            boolean all = t[0];
+            for (int i = 0; i < 3; i++) {
+                boolean and = (bits >> 4 + i & 1) == 1;
+                joints[i] = and ? " and " : " or ";
+                any = any || !and && all;
+                all = and ? all && t[i + 1] : t[i + 1];
+            }
+            boolean due = any || all;
+            holds(s[0] + joints[0] + s[1] + joints[1] + s[2] + joints[2] + s[3], due);
+            holds("not (" + s[0] + joints[0] + s[1] + joints[1] + s[2] + joints[2] + s[3] + ")", !due);
+            boolean left = joints[0].equals(" and ") ? t[0] && t[1] : t[0] || t[1];
+            boolean right = joints[2].equals(" and ") ? t[2] && t[3] : t[2] || t[3];
+            boolean both = joints[1].equals(" and ") ? !left && !right : !left || !right;
+            holds("not (" + s[0] + joints[0] + s[1] + ")" + joints[1] + "not (" + s[2] + joints[2] + s[3] + ")", both);
+        }
+    }
+
     private static void mayAndBars() {
         AlmsHouse x = Check.withWills(3);
         x.person(-60 * 365, -10 * 365, false);
@@ -237,6 +267,11 @@ public final class Promises09To17Test {
         Check.scheme(x, 0, 6, "strike 9");
         check.due("14: none", x.bars(0, 0, 6), -2);
         check.due("13: may", x.may(0, 0, 6), 1);
+        Check.scheme(x, 1, 0, "put 12 kin = 1");
+        check.due("14: the twelfth", x.bars(0, 1, 0), 12);
+        check.due("13: the twelfth", x.may(0, 1, 0), 0);
+        Check.scheme(x, 2, 0, "put 1 kin = 1; put 12 kin = 1");
+        check.due("14: the first", x.bars(0, 2, 0), 1);
         Check.scheme(x, 0, 7, "strike 2; order age");
         check.due("13: none any more", x.may(0, 0, 7), 0);
         int[][] others = {{1, 0, 0}, {-1, 0, 0}, {0, 3, 0}, {0, -1, 0}, {0, 0, -1}, {0, 0, 40001}};
