@@ -2,17 +2,40 @@
 final class Check {
     private int asked;
     private int wrong;
+    private String sentence = "";
+
+    /** Names the part of the document and the words of it that the answers from here on hold to. */
+    void says(String part, String words) {
+        sentence = part + " [" + words + "] ";
+        due("stands in the document", Document.says(part, words), true);
+    }
 
     void due(String call, long got, long want) {
         asked++;
         if (got != want) {
             wrong++;
-            System.out.println(call + " answered " + got + ", due is " + want);
+            System.out.println(sentence + call + " answered " + got + ", due is " + want);
         }
     }
 
     void due(String call, boolean got, boolean want) {
         due(call, got ? 1 : 0, want ? 1 : 0);
+    }
+
+    /** What a call answered, and the TROUBLE that it left in x. */
+    void due(String call, long got, long want, AlmsHouse x, int trouble) {
+        due(call, got, want);
+        due(call + ": trouble()", x.trouble(), trouble);
+    }
+
+    /** A TEXT read from a new tape: its FAULT (0: none) and that one's place (-1: none). */
+    void reads(String text, int fault, int place) {
+        AlmsHouse x = withWills(1);
+        String call = "\"" + text + "\"";
+        due(call, scheme(x, 0, 0, text), fault == 0 ? 0 : -1, x, fault == 0 ? 0 : 4);
+        due(call + ": fault()", x.fault(), fault);
+        due(call + ": where()", x.where(), place);
+        due(call + ": count(1)", x.count(1), fault == 0 ? 1 : 0);
     }
 
     /** Ends the test: exit code 1 if an answer was wrong. */

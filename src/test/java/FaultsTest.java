@@ -21,13 +21,7 @@ public final class FaultsTest {
     }
 
     private static void is(String text, int fault, int place) {
-        AlmsHouse x = Check.withWills(1);
-        int answer = Check.scheme(x, 0, 0, text);
-        check.due("[" + text + "] answer", answer, fault == 0 ? 0 : -1);
-        check.due("[" + text + "] trouble", x.trouble(), fault == 0 ? 0 : 4);
-        check.due("[" + text + "] fault", x.fault(), fault);
-        check.due("[" + text + "] place", x.where(), place);
-        check.due("[" + text + "] schemes", x.count(1), fault == 0 ? 1 : 0);
+        check.reads(text, fault, place);
     }
 
     private static void good(String text) {
