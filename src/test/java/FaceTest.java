@@ -72,6 +72,11 @@ public final class FaceTest {
         for (Field field : AlmsHouse.class.getDeclaredFields()) {
             boolean open = !Modifier.isPrivate(field.getModifiers());
             check.due("field " + field, open, field.getName().equals("NONE"));
+            if (open) {
+                int constant = Modifier.PUBLIC | Modifier.STATIC | Modifier.FINAL;
+                check.due("a public constant: " + field, field.getModifiers(), constant);
+                check.due("of int: " + field, field.getType() == int.class, true);
+            }
             staticIsFinal(field);
         }
     }

@@ -1,48 +1,119 @@
 import java.util.ArrayList;
 import java.util.List;
 import java.util.Random;
+import java.util.Set;
+import java.util.TreeSet;
 
-/** Long runs of calls, the same in each run of the test, with the class held against Model at every call. */
+/**
+ * Runs of calls, the same in each run of the test, with the class held against Model at every call. A run makes no more
+ * calls than the document promises answers for.
+ */
 public final class RandomRunsTest {
-    private static final int RUNS = 1500;
+    private static final int RUNS = 4000;
     private static final int CALLS = 512;
+    /** A step's most: a will, a tape of fifteen feeds, the scheme, and the three questions behind it. */
+    private static final int CALLS_OF_STEP = 20;
+    private static final int CALLS_OF_END = 14;
     private static final Check check = new Check();
+    /** Each call with the TROUBLE that it left, so that the test can tell whether the runs came to all of them. */
+    private static final Set<String> met = new TreeSet<>();
+    private static final String[] REFUSALS = {"will 3", "scheme 1", "scheme 2", "scheme 3", "scheme 4", "person 2",
+        "person 3", "means 1", "means 2", "means 3", "dies 1", "dies 5", "room 1", "room 3", "trustee 3", "away 1",
+        "fill 1", "fill 3", "fill 5", "fill 6", "leave 1", "leave 6", "land 2", "land 3", "dole 2", "pass 2"};
+
+    private enum Step {
+        TEXT, FEED, QUESTION, WILL, PERSON, MEANS, DIES, ROOM, TRUSTEE, AWAY, FILL, LEAVE, LAND, DOLE, PASS
+    }
+
+    /** How often each step comes, in the order of Step. */
+    private enum Kind {
+        MIXED(8, 1, 26, 1, 3, 2, 1, 2, 1, 1, 4, 2, 1, 1, 7),
+        TEXTS(60, 2, 12, 1, 2, 1, 0, 0, 0, 0, 0, 0, 0, 0, 1),
+        ROOMS(0, 0, 8, 0, 3, 1, 1, 2, 1, 2, 40, 30, 0, 0, 5),
+        MONEY(0, 0, 8, 0, 2, 0, 0, 1, 1, 0, 3, 1, 4, 2, 30),
+        MANY(4, 4, 20, 2, 18, 20, 2, 8, 4, 2, 6, 2, 6, 2, 2);
+
+        final int[] often;
+        final int all;
+
+        Kind(int... often) {
+            this.often = often;
+            int sum = 0;
+            for (int one : often) {
+                sum += one;
+            }
+            all = sum;
+        }
+    }
 
     private final Random dice;
     private final AlmsHouse x = new AlmsHouse();
     private final Model m = new Model();
     private final int run;
+    private final Kind kind;
     private final boolean calm;
+    private int calls;
 
     private RandomRunsTest(int run) {
         this.run = run;
         dice = new Random(run);
+        kind = Kind.values()[run % Kind.values().length];
         // Some runs rarely ask for what is refused, so that they come far.
-        calm = run % 3 != 0;
+        calm = dice.nextInt(3) != 0;
     }
 
     public static void main(String[] args) {
         for (int run = 0; run < RUNS; run++) {
             new RandomRunsTest(run).go();
         }
+        for (String refusal : REFUSALS) {
+            check.due("the runs came to " + refusal, met.contains(refusal), true);
+        }
         check.end("RandomRunsTest");
     }
 
     private void go() {
-        for (int call = 0; call < CALLS; call++) {
-            one(dice.nextInt(60));
+        if (kind == Kind.ROOMS || kind == Kind.MONEY) {
+            furnish();
+        }
+        while (calls + CALLS_OF_STEP + CALLS_OF_END <= CALLS) {
+            step(pick());
         }
         for (int what = -1; what <= 12; what++) {
             due("count(" + what + ")", x.count(what), m.count(what));
         }
+        check.due("run " + run + " keeps to 512 calls", calls <= CALLS, true);
+    }
+
+    /** A will that lets all come, so that the rooms change hands often. */
+    private void furnish() {
+        give("put 1 age < 999; order waits", 0, 0);
+        for (int i = 0; i < 6; i++) {
+            step(Step.ROOM);
+            step(Step.PERSON);
+        }
+        step(Step.TRUSTEE);
+        step(Step.LAND);
+    }
+
+    private Step pick() {
+        int left = dice.nextInt(kind.all);
+        int which = 0;
+        while (left >= kind.often[which]) {
+            left -= kind.often[which];
+            which++;
+        }
+        return Step.values()[which];
     }
 
     private void due(String call, int got, int want) {
+        calls++;
         check.due("run " + run + ": " + call, got, want);
+        met.add(call.substring(0, call.indexOf('(')) + " " + m.trouble);
     }
 
     private void due(String call, boolean got, boolean want) {
-        check.due("run " + run + ": " + call, got, want);
+        due(call, got ? 1 : 0, want ? 1 : 0);
     }
 
     private int roll(int from, int to) {
@@ -65,44 +136,53 @@ public final class RandomRunsTest {
         return Math.max(0, m.today + roll(-600, 300));
     }
 
-    private void one(int which) {
-        if (which < 8) {
+    private void step(Step which) {
+        if (which == Step.TEXT) {
             text();
-        } else if (which < 34) {
-            question(which);
+        } else if (which == Step.FEED) {
+            feed("put 1 age < 60 ; put", 0);
+        } else if (which == Step.QUESTION) {
+            question();
         } else {
             deed(which);
         }
-        due("trouble()", x.trouble(), m.trouble);
-        due("where()", x.where(), m.where());
-        due("fault()", x.fault(), m.fault);
+        if (which == Step.TEXT && m.fault != 0 || dice.nextInt(4) == 0) {
+            due("trouble()", x.trouble(), m.trouble);
+            due("where()", x.where(), m.where());
+            due("fault()", x.fault(), m.fault);
+        }
     }
 
     private void text() {
+        give(new Texts(dice).text(), of(m.wills), day());
+    }
+
+    private void give(String text, int will, int day) {
         if (m.wills == 0) {
             due("will()", x.will(), m.will());
         }
-        String text = new Texts(dice).text();
         for (int at = 0; at < text.length(); at += 20) {
-            int[] f = new int[5];
-            for (int i = 0; i < 5; i++) {
-                f[i] = Check.four(text, at + 4 * i);
-            }
-            due("feed()", x.feed(f[0], f[1], f[2], f[3], f[4]), m.feed(f));
+            feed(text, at);
         }
-        int will = of(m.wills);
-        int day = day();
         int n = dice.nextInt(20) == 0 ? roll(-1, m.tape.length() + 1) : Math.min(text.length(), m.tape.length());
         due("scheme(" + will + ", " + day + ", [" + text + "])", x.scheme(will, day, n), m.scheme(will, day, n));
     }
 
-    private void question(int which) {
+    private void feed(String text, int at) {
+        int[] f = new int[5];
+        for (int i = 0; i < 5; i++) {
+            f[i] = Check.four(text, at + 4 * i);
+        }
+        due("feed()", x.feed(f[0], f[1], f[2], f[3], f[4]), m.feed(f));
+    }
+
+    private void question() {
         int p = of(m.people.size());
         int w = of(m.wills);
         int r = of(m.rooms.size());
         int d = day();
         int k = roll(-1, 13);
-        switch (which % 13) {
+        switch (dice.nextInt(13)) {
             case 0 -> due("clause(" + w + ", " + k + ", " + d + ")", x.clause(w, k, d), m.clause(w, k, d));
             case 1 -> due("clauses(" + w + ", " + d + ")", x.clauses(w, d), m.clauses(w, d));
             case 2 -> due("fact(" + p + ", " + d + ", " + k % 6 + ")", x.fact(p, d, k % 6), m.fact(p, d, k % 6));
@@ -119,45 +199,36 @@ public final class RandomRunsTest {
         }
     }
 
-    private void deed(int which) {
+    private void deed(Step which) {
+        int p = of(m.people.size());
         switch (which) {
-            case 34 -> due("will()", x.will(), m.will());
-            case 35, 36, 37 -> person();
-            case 38, 39 -> means();
-            case 40 -> {
-                int p = of(m.people.size());
+            case WILL -> due("will()", x.will(), m.will());
+            case PERSON -> person();
+            case MEANS -> means(p);
+            case DIES -> {
                 boolean spared = calm && dice.nextInt(3) != 0;
                 if (!spared) {
                     due("dies(" + p + ")", x.dies(p), m.dies(p));
                 }
             }
-            case 41, 42 -> {
+            case ROOM -> {
                 int w = of(m.wills);
                 due("room(" + w + ")", x.room(w), m.room(w));
             }
-            case 43 -> due("trustee()", x.trustee(), m.trustee());
-            case 44 -> {
+            case TRUSTEE -> due("trustee()", x.trustee(), m.trustee());
+            case AWAY -> {
                 int t = of(m.away.size());
                 boolean is = dice.nextBoolean();
                 due("away(" + t + ", " + is + ")", x.away(t, is), m.away(t, is));
             }
-            case 45, 46, 47, 48 -> {
-                int r = of(m.rooms.size());
-                due("fill(" + r + ")", x.fill(r), m.fill(r));
-            }
-            case 49, 50 -> {
-                int r = of(m.rooms.size());
-                due("leave(" + r + ")", x.leave(r), m.leave(r));
-            }
-            case 51 -> land();
-            case 52 -> {
+            case FILL -> fill();
+            case LEAVE -> leave();
+            case LAND -> land();
+            case DOLE -> {
                 int v = dice.nextInt(6) == 0 ? roll(-1, 1000) : roll(0, 60);
                 due("dole(" + v + ")", x.dole(v), m.dole(v));
             }
-            default -> {
-                int days = dice.nextInt(8) == 0 ? roll(-1, 401) : roll(1, 30);
-                due("pass(" + days + ")", x.pass(days), m.pass(days));
-            }
+            default -> pass();
         }
     }
 
@@ -169,18 +240,41 @@ public final class RandomRunsTest {
                 m.person(birth, coming, kin));
     }
 
-    private void means() {
-        int p = of(m.people.size());
+    private void means(int p) {
         int d = day();
         int v = dice.nextInt(8) == 0 ? roll(-1, 10000) : roll(0, 100);
         due("means(" + p + ", " + d + ", " + v + ")", x.means(p, d, v), m.means(p, d, v));
     }
 
+    private void fill() {
+        int r = roomThatIs(true);
+        due("fill(" + r + ")", x.fill(r), m.fill(r));
+    }
+
+    private void leave() {
+        int r = roomThatIs(false);
+        due("leave(" + r + ")", x.leave(r), m.leave(r));
+    }
+
+    /** In calm runs mostly one that can be filled, or left, so that many stays come about. */
+    private int roomThatIs(boolean empty) {
+        int r = of(m.rooms.size());
+        for (int i = 0; i < 4 && calm && m.roomOf(r, 1) != -1 && (m.roomOf(r, 1) == -2) != empty; i++) {
+            r = of(m.rooms.size());
+        }
+        return r;
+    }
+
     private void land() {
-        int rent = dice.nextInt(8) == 0 ? roll(-1, 10000) : roll(0, 300);
+        int rent = dice.nextInt(kind == Kind.MONEY ? 2 : 8) == 0 ? roll(-1, 10000) : roll(0, 300);
         int each = dice.nextInt(8) == 0 ? roll(-1, 401) : roll(1, 60);
         int first = m.today + roll(0, 200);
         due("land(" + rent + ", " + each + ", " + first + ")", x.land(rent, each, first), m.land(rent, each, first));
+    }
+
+    private void pass() {
+        int days = dice.nextInt(kind == Kind.MONEY ? 2 : 8) == 0 ? roll(-1, 401) : roll(1, 30);
+        due("pass(" + days + ")", x.pass(days), m.pass(days));
     }
 
     /** Texts by the grammar, some of them spoilt, some of them near a bound. */
